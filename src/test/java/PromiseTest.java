@@ -372,7 +372,7 @@ public final class PromiseTest {
         Checks.write(x, 0, "or");
         x.tear(1);
         int t = Checks.unknown(x, "elevenlette twelveLETTER twelveletterr thirteenlongy thirteenlong thirteenlongxx THIRTEENLONGz"
-            + " th the t[h] hT");
+            + " th the t[h] hT ah");
         due("WORDS of 11 letters", x.counts(0, t), 1);
         due("WORDS of 12 and more", x.counts(1, t), 6);
         due("WORDS that end with r", x.counts(2, t), 2);
@@ -653,7 +653,7 @@ public final class PromiseTest {
         found("impostors of a withdrawn text", x, 0, x.impostors(t, 0, 1, 0), NOTHING);
         int u = Checks.known(x, 1, "aab");
         Checks.known(x, 0, "aac");
-        Checks.known(x, 1, "abb");
+        Checks.known(x, 1, "aabb");
         found("a writer without a hand", x, 0, x.impostors(u, 2, 1, 0), NOUGHT);
         due("impostors(-1, ..)", x.impostors(-1, 0, 1, 0), BAD);
         due("impostors(4, ..)", x.impostors(4, 0, 1, 0), BAD);
@@ -662,9 +662,14 @@ public final class PromiseTest {
         due("201 trials", x.impostors(u, 0, 201, 0), BAD);
         long[] seeds = {0, 1, -1, 7, Long.MAX_VALUE, Long.MIN_VALUE, 123456789012345L};
         for (long seed : seeds) dueImpostors(x, u, seed);
+        x.sort(1);
+        due("impostors by the squares", x.impostors(u, 0, 200, 7), impostorsOneBySquares(7));
     }
 
-    /** By the rates 666/333/0 of u, 666/0/333 of writer 0 and 333/666/0 of writer 1's other text. */
+    /**
+     * By the rates 666/333/0 of u, 666/0/333 of writer 0 and 500/500/0 of writer 1's other text: none of the
+     * three features is not the first one alone, nor is it as if both were as far.
+     */
     private static void dueImpostors(WhoseHand x, int u, long seed) {
         int won = 0;
         long s = seed;
@@ -673,7 +678,7 @@ public final class PromiseTest {
             int bits = (int) (s >>> 16) & 7;
             if (bits == 0) bits = 7;
             int farZero = ((bits & 2) != 0 ? 333 : 0) + ((bits & 4) != 0 ? 333 : 0);
-            int farOne = ((bits & 1) != 0 ? 333 : 0) + ((bits & 2) != 0 ? 333 : 0);
+            int farOne = ((bits & 1) != 0 ? 166 : 0) + ((bits & 2) != 0 ? 167 : 0);
             if (farZero <= farOne) won++;
             if (n != 1 && n != 13 && n != 200) continue;
             due("won by 0, seed " + seed + ", of " + n, x.impostors(u, 0, n, seed), won);
@@ -681,10 +686,21 @@ public final class PromiseTest {
         }
     }
 
+    /** Writer 0 wins by the first feature alone only. */
+    private static int impostorsOneBySquares(long seed) {
+        int won = 0;
+        long s = seed;
+        for (int n = 0; n < 200; n++) {
+            s = s * 1103515245L + 12345L;
+            if ((s >>> 16 & 7) == 1) won++;
+        }
+        return won;
+    }
+
     private static void promise23Part() {
         WhoseHand x = new WhoseHand();
-        x.feature(1, 1);
         x.feature(0, 'a');
+        x.feature(1, 1);
         Checks.known(x, 0, "a a");
         Checks.known(x, 2, "bb bb");
         int t = Checks.unknown(x, "a [q q] c! dd dd e");
@@ -862,6 +878,19 @@ public final class PromiseTest {
         due("tree of fourteen", y.tree(), 13);
         for (int i = 0; i < 13; i++) dueJoin(y, i, 0, i + 1, 0);
         pairsAsLike();
+        treeByTwoFeatures();
+    }
+
+    private static void treeByTwoFeatures() {
+        WhoseHand x = new WhoseHand();
+        x.feature(0, 'a');
+        x.feature(1, 2);
+        Checks.unknown(x, "a ab");
+        Checks.unknown(x, "aab bb");
+        Checks.unknown(x, "abb b b");
+        x.tree();
+        dueJoin(x, 0, 0, 1, 666 - 400);
+        dueJoin(x, 1, 0, 2, 500 - 200 + 500);
     }
 
     /** Of pairs as like as 0 and 3, 1 and 2 and 1 and 4 the least first one goes ahead. */
@@ -934,6 +963,8 @@ public final class PromiseTest {
         for (int t = 0; t < 14; t++) Checks.known(y, t == 6 ? 4 : 2, "b");
         due("shuffle of like ones", y.shuffle(0, 4, 2), 14);
         due("of fourteen ways", y.asked(), 14);
+        due("shuffle of thirteen and one", y.shuffle(0, 2, 4), 14);
+        due("of fourteen ways, thirteen taken", y.asked(), 14);
     }
 
     private static void promise28Asked() {
