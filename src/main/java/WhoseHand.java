@@ -123,14 +123,14 @@ public final class WhoseHand {
     public int feature(int sort, int v) {
         if (!isFeatureValue(sort, v)) return BAD;
         if (measure.isFull()) return FULL;
-        Feature made = new Feature(sort, smallSign(v));
         if (sort == BY_WORD) {
             Sheet sheet = sheetAt(v);
             if (sheet == null || sheet.isMissing()) return found(NOTHING);
             firstWord.read(sheet);
             if (firstWord.words == 0) return found(SIZE);
-            made.learnWord(firstWord, 0);
         }
+        Feature made = new Feature(sort, smallSign(v));
+        if (sort == BY_WORD) made.learnWord(firstWord, 0);
         return measure.take(made, texts);
     }
 
@@ -212,7 +212,8 @@ public final class WhoseHand {
         int n = 0;
         for (int t = 0; t < texts.length; t++) {
             Text text = texts[t];
-            if (text != null && text.isHandsOwn() && outcome(t, text) == what) n++;
+            if (text == null || !text.isInHand()) continue;
+            if (outcome(nearestWriter(t, text), text.writer) == what) n++;
         }
         return n;
     }
@@ -230,7 +231,7 @@ public final class WhoseHand {
     public int impostors(int text, int writer, int n, long seed) {
         Text asked = textAt(text);
         if (asked == null || !isWriter(writer) || n < 1 || n > MOST_TRIALS) return BAD;
-        if (measure.told == 0) return STATE;
+        if (measure.size == 0) return STATE;
         if (asked.withdrawn) return found(NOTHING);
         readHandsFor(text, asked);
         if (!hands.has(writer)) return found(NOUGHT);
@@ -336,7 +337,7 @@ public final class WhoseHand {
         switch (what) {
             case 0: return textsEver;
             case 1: return textsThere();
-            case 2: return measure.told;
+            case 2: return measure.size;
             default: return measure.farnessSort;
         }
     }
@@ -353,7 +354,7 @@ public final class WhoseHand {
         if (text.withdrawn) return 31 * before - 1;
         long h = before;
         for (int what = 0; what < TOLD_OF_TEXT; what++) h = 31 * h + text.tell(what);
-        for (int f = 0; f < measure.told; f++) h = 31 * h + text.tally.countOf(f);
+        for (int f = 0; f < measure.size; f++) h = 31 * h + text.tally.countOf(f);
         return h;
     }
 
@@ -368,13 +369,6 @@ public final class WhoseHand {
         return hands.nearestTo(rates, measure, EVERY_FEATURE);
     }
 
-    /** How the trial ends for a known text, by the numbers that trial() takes. */
-    private int outcome(int t, Text text) {
-        int given = nearestWriter(t, text);
-        if (given == NONE) return 2;
-        return given == text.writer ? 0 : 1;
-    }
-
     private int addToShuffles(int feature, int writer) {
         int n = 0;
         for (int t = 0; t < texts.length; t++) {
@@ -384,6 +378,12 @@ public final class WhoseHand {
             n++;
         }
         return n;
+    }
+
+    /** How the trial ends for a text that was given to a writer, by the numbers that trial() takes. */
+    private static int outcome(int given, int writer) {
+        if (given == NONE) return 2;
+        return given == writer ? 0 : 1;
     }
 
     private static boolean isWriter(int writer) {
@@ -521,7 +521,8 @@ public final class WhoseHand {
 
         /** A blank where the word has no such letter. */
         int letterOf(int word, int i) {
-            if (i < 0 || i >= lengthOf(word)) return BLANK;
+            if (word < 0 || word >= words || word >= WORDS) return BLANK;
+            if (i < 0 || i >= lengths[word]) return BLANK;
             int at = starts[word] + i;
             return at >= 0 && at < signs.length ? signs[at] : BLANK;
         }
@@ -628,12 +629,12 @@ public final class WhoseHand {
             return kind == KNOWN || kind == OLD;
         }
 
-        boolean isHandsOwn() {
+        boolean isInHand() {
             return isKnown() && !withdrawn;
         }
 
         boolean isBy(int someone) {
-            return isHandsOwn() && writer == someone;
+            return isInHand() && writer == someone;
         }
 
         int tell(int what) {
@@ -650,15 +651,16 @@ public final class WhoseHand {
     /** The features, and how far two rows of their rates are from one another. */
     private static final class Measure {
         private final Feature[] features = new Feature[FEATURES];
-        private int told;
+        private final boolean[] bySign = new boolean[FEATURES];
+        private int size;
         private int farnessSort;
 
         boolean isFull() {
-            return told >= features.length;
+            return size >= features.length;
         }
 
         boolean has(int f) {
-            return f >= 0 && f < told;
+            return f >= 0 && f < size;
         }
 
         private Feature featureAt(int f) {
@@ -668,18 +670,19 @@ public final class WhoseHand {
         /** Counts the new feature in all texts at once, so that no later call has to look at signs. */
         int take(Feature feature, Text[] texts) {
             if (isFull()) return FULL;
-            features[told] = feature;
+            features[size] = feature;
+            bySign[size] = feature.sort == BY_SIGN;
             for (int t = 0; t < texts.length; t++) {
                 Text text = texts[t];
-                if (text != null) text.tally.setCount(told, feature.countIn(text.prose));
+                if (text != null) text.tally.setCount(size, feature.countIn(text.prose));
             }
-            return told++;
+            return size++;
         }
 
         void tallyText(Text text) {
             text.tally.words = text.prose.words;
             text.tally.lettersAndMarks = text.prose.lettersAndMarks;
-            for (int f = 0; f < told; f++) {
+            for (int f = 0; f < size; f++) {
                 Feature feature = featureAt(f);
                 if (feature != null) text.tally.setCount(f, feature.countIn(text.prose));
             }
@@ -689,15 +692,14 @@ public final class WhoseHand {
         void tallyWords(Prose prose, int first, int end, Tally tally) {
             tally.clear();
             tally.words = end - first;
-            for (int f = 0; f < told; f++) {
+            for (int f = 0; f < size; f++) {
                 Feature feature = featureAt(f);
                 if (feature != null) tally.setCount(f, feature.countInWords(prose, first, end));
             }
         }
 
         int wholeOf(Tally tally, int f) {
-            Feature feature = featureAt(f);
-            return feature != null && feature.sort == BY_SIGN ? tally.lettersAndMarks : tally.words;
+            return f >= 0 && f < bySign.length && bySign[f] ? tally.lettersAndMarks : tally.words;
         }
 
         int rateIn(Tally tally, int f) {
@@ -705,27 +707,26 @@ public final class WhoseHand {
         }
 
         void readRates(Tally tally, int[] row) {
-            for (int f = 0; f < told && f < row.length; f++) row[f] = rateIn(tally, f);
+            for (int f = 0; f < size && f < row.length; f++) row[f] = rateIn(tally, f);
         }
 
         /** Which features a trial's bits choose, as bits; every one if they choose none. */
         int featuresOf(long bits) {
-            int chosen = (int) bits & (1 << told) - 1;
+            int chosen = (int) bits & (1 << size) - 1;
             return chosen == 0 ? EVERY_FEATURE : chosen;
         }
 
         int wordFeatures() {
             int which = 0;
-            for (int f = 0; f < told; f++) {
-                Feature feature = featureAt(f);
-                if (feature != null && feature.sort != BY_SIGN) which |= 1 << f;
+            for (int f = 0; f < size && f < bySign.length; f++) {
+                if (!bySign[f]) which |= 1 << f;
             }
             return which;
         }
 
         int farness(int[] row, int[] other, int which) {
             int sum = 0;
-            for (int f = 0; f < told && f < row.length && f < other.length; f++) {
+            for (int f = 0; f < size && f < row.length && f < other.length; f++) {
                 if ((which >>> f & 1) == 0) continue;
                 int apart = Math.abs(row[f] - other[f]);
                 sum += farnessSort == 0 ? apart : apart * apart;
