@@ -769,6 +769,21 @@ public final class PromiseTest {
         dueWindows("a as long as can be", x, 1, 1, 3);
         due("an early change", x.part(u, 1, 3, 1, 100), 1);
         dueWindows("a as soon as can be", x, 1, 3, 3);
+        partingByOne();
+    }
+
+    private static void partingByOne() {
+        WhoseHand x = new WhoseHand();
+        x.feature(1, 1);
+        x.feature(1, 2);
+        Checks.known(x, 0, "a" + repeat(" ccc", 6));
+        Checks.known(x, 1, repeat("a ", 7) + repeat("bb ", 5) + "ccc ccc");
+        int t = Checks.unknown(x, "a");
+        due("far from 0", x.from(t, 0), 1000 - 142);
+        due("far from 1", x.from(t, 1), 500 + 357);
+        x.part(t, 1, 0, 1, 0);
+        dueWindows("the least by one", x, 1);
+        due("its price", x.asked(), 857);
     }
 
     private static void partingOfMostWindows() {
