@@ -78,6 +78,10 @@ public final class AlongBoundaryTest {
             duePart(x, due, 2, 0, 1, 334, 0, 1500);
             dueWindows(x, due, 0, 0);
         });
+        b.holds("c for each WINDOW that is by another one than that ahead of it: none is ahead of the first", (x, due) -> {
+            duePart(x, due, 3, 1, 0, 10000000, 0, 333);
+            dueWindows(x, due, 0);
+        });
         b.holds("c 10000000", (x, due) -> duePart(x, due, 2, 0, 1, 10000000, 0, 1500));
         b.holds("WRITER 5", (x, due) -> {
             Checks.known(x, 5, "ccc");
@@ -204,7 +208,8 @@ public final class AlongBoundaryTest {
         b.promise("promise 23, part", Worlds::ordinary);
         b.holds("only WORDS' FEATURES count there, not those of sort 0", (x, due) -> {
             x.feature(0, 'a');
-            Checks.known(x, 0, "!!!!!!!!");
+            Checks.known(x, 0, ",,,,,,,,");
+            Checks.known(x, 1, "!!!!!!!!");
             duePart(x, due, 3, 0, 1, 0, 0, 333);
         });
         b.holds("FEATURES of sort 0 alone: a for nothing", (x, due) -> {
@@ -215,6 +220,8 @@ public final class AlongBoundaryTest {
             Checks.known(y, 3, "a");
             duePart(y, due, 1, 2, 3, 0, 0, 0);
             dueWindows(y, due, 2, 2);
+            duePart(y, due, 1, 3, 2, 0, 0, 0);
+            dueWindows(y, due, 3, 3);
         });
         b.holds("no FEATURES: a for nothing", (x, due) -> {
             WhoseHand y = new WhoseHand();

@@ -1,4 +1,5 @@
 import java.math.BigInteger;
+import java.util.List;
 
 /** One test for each boundary that the document names of farness, the trial and impostors: promises 15 to 22. */
 public final class FarnessBoundaryTest {
@@ -264,6 +265,13 @@ public final class FarnessBoundaryTest {
             x.sort(1);
             dueTrial(x, due, 2, 1, 0);
         });
+        b.holds("the first TEXT and the last, of fourteen", (x, due) -> {
+            WhoseHand y = new WhoseHand();
+            alike(y, "a", 3);
+            for (int t = 1; t < 13; t++) Checks.unknown(y, "a");
+            alike(y, "a", 3);
+            dueTrial(y, due, 2, 0, 0);
+        });
         b.holds("fourteen KNOWN TEXTS, all right", (x, due) -> {
             WhoseHand y = new WhoseHand();
             for (int t = 0; t < 14; t++) Checks.known(y, 5, "a");
@@ -303,6 +311,15 @@ public final class FarnessBoundaryTest {
             x.sort(1);
             due.is(x.taken(1, 0), 0);
             due.is(x.taken(1, 1), 2);
+        });
+        b.holds("the first TEXT and the last, of fourteen", (x, due) -> {
+            WhoseHand y = new WhoseHand();
+            y.feature(1, 1);
+            alike(y, "a", 3);
+            for (int t = 1; t < 13; t++) Checks.unknown(y, "a");
+            alike(y, "a", 4);
+            due.is(y.taken(3, 4), 1);
+            due.is(y.taken(4, 3), 1);
         });
         b.holds("a TEXT that is not asked is given to none", (x, due) -> {
             x.withdraw(1);
@@ -370,6 +387,22 @@ public final class FarnessBoundaryTest {
         due.is(x.impostors(0, 3, n, seed), n - won);
     }
 
+    /** Writer 0 wins a trial if the one FEATURE in which it is far from the TEXT does not count there. */
+    private static void impostorsByBits(String sentence, long seed, Integer... bits) {
+        b.holds("bit k for FEATURE k: of the first trial, " + sentence, (x, due) -> {
+            for (int k = 0; k < 12; k++) {
+                WhoseHand y = new WhoseHand();
+                for (int f = 0; f < 12; f++) y.feature(1, f == k ? 2 : 1);
+                Checks.unknown(y, "ccc");
+                alike(y, "bb", 0);
+                alike(y, "ddd", 1);
+                boolean counts = List.of(bits).contains(k);
+                due.is(y.impostors(0, 0, 1, seed), counts ? 0 : 1);
+                due.is(y.impostors(0, 1, 1, seed), counts ? 1 : 0);
+            }
+        });
+    }
+
     private static void impostors() {
         b.promise("promise 22, impostors", FarnessBoundaryTest::twelveLetters);
         long[] seeds = {0, 1, -1, 65535, -65536, Long.MAX_VALUE, Long.MIN_VALUE, 4022250974L, -987654321987654321L};
@@ -382,17 +415,18 @@ public final class FarnessBoundaryTest {
             x.sort(1);
             dueImpostors(x, due, 200, 5);
         });
-        b.holds("bit k for FEATURE k: seed 1 tells 1, 2, 6, 7, 8 of the first trial", (x, due) -> {
-            for (int k = 0; k < 12; k++) {
-                WhoseHand y = new WhoseHand();
-                for (int f = 0; f < 12; f++) y.feature(1, f == k ? 2 : 1);
-                Checks.unknown(y, "ccc");
-                Checks.known(y, 0, "bb");
-                Checks.known(y, 1, "ddd");
-                boolean counts = k == 1 || k == 2 || k == 6 || k == 7 || k == 8;
-                due.is(y.impostors(0, 0, 1, 1), counts ? 0 : 1);
-                due.is(y.impostors(0, 1, 1, 1), counts ? 1 : 0);
-            }
+        impostorsByBits("seed 1", 1, 1, 2, 6, 7, 8);
+        impostorsByBits("seed 5, with 0 and 11", 5, 0, 1, 2, 3, 4, 6, 7, 11);
+        impostorsByBits("seed 13", 13, 1, 4, 8, 9, 10);
+        impostorsByBits("seed 16", 16, 0, 2, 5, 6, 10, 11);
+        b.holds("if none, all: bits 4, 5, 7, 8 are no FEATURES, if there are four", (x, due) -> {
+            WhoseHand y = new WhoseHand();
+            for (int f = 0; f < 4; f++) y.feature(1, 1);
+            Checks.unknown(y, "a");
+            alike(y, "bb", 0);
+            alike(y, "a", 1);
+            due.is(y.impostors(0, 1, 1, 28), 1);
+            due.is(y.impostors(0, 0, 1, 28), 0);
         });
         b.holds("if none, all: of one FEATURE, always", (x, due) -> {
             WhoseHand y = new WhoseHand();
