@@ -284,6 +284,16 @@ public final class FeaturesBoundaryTest {
             Checks.known(x, 5, "bb");
             due.is(x.hand(1, 5), 1000);
         });
+        b.holds("without no TEXT: the first and the last of fourteen", (x, due) -> {
+            WhoseHand y = new WhoseHand();
+            y.feature(0, 'a');
+            Checks.known(y, 3, "a");
+            due.is(y.hand(0, 3), 1000);
+            for (int t = 1; t < 13; t++) Checks.known(y, 3, "b");
+            due.is(y.hand(0, 3), 76);
+            Checks.known(y, 3, "a");
+            due.is(y.hand(0, 3), 142);
+        });
         b.holds("of fourteen TEXTS", (x, due) -> {
             WhoseHand y = new WhoseHand();
             y.feature(0, 'a');
