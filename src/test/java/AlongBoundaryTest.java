@@ -311,6 +311,11 @@ public final class AlongBoundaryTest {
             x.shuffle(1, 0, 1);
             dueWindows(x, due, 0, 0, 1);
         });
+        b.holds("in the latest part(): TEXTS that are WITHDRAWN later leave it", (x, due) -> {
+            for (int t = 0; t < 4; t++) due.is(x.withdraw(t), 1);
+            due.is(x.part(0, 1, 0, 1, 10), FINDING);
+            dueWindows(x, due, 0, 0, 1);
+        });
     }
 
     private static void dueJoin(WhoseHand x, Boundaries.Due due, int i, int lesser, int other, int farness) {
@@ -438,6 +443,12 @@ public final class AlongBoundaryTest {
             Checks.unknown(x, "a");
             x.part(0, 1, 0, 1, 0);
             dueJoin(x, due, 0, 0, 3, 142);
+            due.is(x.join(4, 0), NONE);
+        });
+        b.holds("of the latest tree(): TEXTS that are WITHDRAWN later leave it", (x, due) -> {
+            for (int t = 0; t < 4; t++) due.is(x.withdraw(t), 1);
+            dueJoin(x, due, 0, 0, 3, 142);
+            dueJoin(x, due, 3, 0, 2, 500);
             due.is(x.join(4, 0), NONE);
         });
     }
@@ -588,6 +599,10 @@ public final class AlongBoundaryTest {
             x.sort(1);
             x.tear(2);
             due.is(x.finding(), NOTHING);
+            due.is(x.asked(), 2010);
+        });
+        b.holds("TEXTS that are WITHDRAWN later leave it", (x, due) -> {
+            for (int t = 0; t < 4; t++) due.is(x.withdraw(t), 1);
             due.is(x.asked(), 2010);
         });
         b.promise("promise 28, asked", Worlds::empty);
